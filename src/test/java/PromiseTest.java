@@ -159,7 +159,13 @@ public final class PromiseTest {
         due("unlike eight letters", of("room abcdefgh joy 1;room abcdefgi joy 1;").about(0), 2);
         due("four digits", of("rent 9999;").about(12), 1);
         Checks.fault(2, "room a!1 joy 1;");
+        // What end() cut off is no part of the text.
         OtherPanes x = new OtherPanes();
+        Checks.feed(x, "room a joy 1curtain;");
+        x.end(12);
+        due("a letter behind the end", x.quarter(), NONE);
+        due("a letter behind the end: fault(0)", x.fault(0), 2);
+        due("a letter behind the end: fault(1)", x.fault(1), 12);
         due("fault(2)", x.fault(2), NONE);
         due("fault(-1)", x.fault(-1), NONE);
     }
@@ -490,6 +496,16 @@ public final class PromiseTest {
         }
         due("day 2", x.about(3), 2);
         due("b a day later", x.room(1, 3), 1 + 2 + 4 + 8);
+        // Far beyond an object's 512 calls, so not promised, but the rule holds there, too.
+        OtherPanes old = of("");
+        for (int i = 0; i < 24000; i++) {
+            old.hour();
+        }
+        due("day 1000", old.about(3), 1000);
+        due("no hour behind day 999", old.hour(), NONE);
+        due("HOUR of day 1000", old.about(2), 0);
+        old.undo();
+        due("the last hour", old.hour(), 0);
         OtherPanes hidden = of("room a joy 1;room b joy 1 curtain;fact f of b at 0;fact g of a at 0;");
         due("behind a curtain: a sees nothing, b sees a", hidden.hour(), 1);
         due("b", hidden.room(1, 3), 3);
