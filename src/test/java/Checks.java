@@ -62,6 +62,60 @@ final class Checks {
         due("fault(1) of " + marked, x.fault(1), place);
     }
 
+    /** All that can be asked without doing anything, as one text. */
+    static String look(OtherPanes x) {
+        StringBuilder s = new StringBuilder();
+        for (int what = 0; what <= 13; what++) {
+            s.append(x.about(what)).append(' ');
+        }
+        for (int room = 0; room < x.about(0); room++) {
+            for (int what = 0; what < 8; what++) {
+                s.append(x.room(room, what)).append(' ');
+            }
+            s.append(x.sure(room, x.about(10))).append(' ');
+            for (int other = 0; other < x.about(0); other++) {
+                s.append(x.wants(room, other)).append(' ');
+            }
+        }
+        for (int fact = 0; fact < x.about(1); fact++) {
+            for (int what = 0; what < 4; what++) {
+                s.append(x.fact(fact, what)).append(' ');
+            }
+        }
+        for (int i = 0; i < x.about(13); i++) {
+            s.append(x.lies(i)).append(' ');
+        }
+        s.append(x.fair()).append(' ').append(x.lots(x.about(10))).append(' ').append(x.rents());
+        return s.toString();
+    }
+
+    /** A call that answers so, and changes nothing that can be asked. */
+    static void doesNothing(String call, OtherPanes x, ToInt made, int want) {
+        String before = look(x);
+        due(call, made.call(x), want);
+        same(call + " does nothing", look(x), before);
+    }
+
+    static void answersFalse(String call, OtherPanes x, ToTruth made) {
+        doesNothing(call, x, y -> made.call(y) ? 1 : 0, 0);
+    }
+
+    static void same(String what, String got, String want) {
+        asked++;
+        if (!got.equals(want)) {
+            wrong++;
+            System.out.println(what + ": it is\n  " + got + ", due is\n  " + want);
+        }
+    }
+
+    interface ToInt {
+        int call(OtherPanes x);
+    }
+
+    interface ToTruth {
+        boolean call(OtherPanes x);
+    }
+
     static void laid(String what, OtherPanes x, int... want) {
         due(what + ": about(13)", x.about(13), want.length);
         for (int i = 0; i < want.length; i++) {
