@@ -72,7 +72,7 @@ final class Checks {
             for (int what = 0; what < 8; what++) {
                 s.append(x.room(room, what)).append(' ');
             }
-            s.append(x.sure(room, x.about(10))).append(' ');
+            s.append(x.sure(room, x.about(10))).append(' ').append(x.will(room, 30)).append(' ');
             for (int other = 0; other < x.about(0); other++) {
                 s.append(x.wants(room, other)).append(' ');
             }
@@ -85,7 +85,10 @@ final class Checks {
         for (int i = 0; i < x.about(13); i++) {
             s.append(x.lies(i)).append(' ');
         }
-        s.append(x.fair()).append(' ').append(x.lots(x.about(10))).append(' ').append(x.rents());
+        for (int hour = 0; hour < 24; hour++) {
+            s.append(x.dark(hour));
+        }
+        s.append(' ').append(x.gossip(240)).append(' ').append(x.fair()).append(' ').append(x.lots(x.about(10))).append(' ').append(x.rents());
         return s.toString();
     }
 

@@ -213,6 +213,10 @@ public final class PlanEdgesTest {
         Checks.laid("one ring of six", x, 1, 2, 5, 0, 3, 4);
         due("nothing is done", x.room(0, 0), 0);
         due("no ACT", x.about(7), 0);
+        x.swap(0, 5);
+        // By windows as they are then: f b c d e a.
+        due("from what is now", x.swaps(), 4);
+        Checks.laid("from what is now", x, 1, 2, 5, 0, 3, 4);
     }
 
     // "(0 if not told; of like ones the one whose window SHOWS the lowest ROOM)"

@@ -39,6 +39,7 @@ public final class SceneEdgesTest {
         wantInTheRent();
         dayInTheRent();
         selfAndSeenInTheRent();
+        joyAndKnowsInTheRent();
         wrapping();
         quotientsAreCut();
         byNought();
@@ -241,6 +242,17 @@ public final class SceneEdgesTest {
         due("behind 23", x.room(0, 4), 1);
         pass(x, 24);
         due("a day later", x.room(0, 4), 2);
+    }
+
+    // "joy (of the ROOM that is SHOWN) .. knows (how many FACTS it KNOWS)"
+    private static void joyAndKnowsInTheRent() {
+        OtherPanes x = of("room a joy 0;room b joy 9;fact f of b at 0;fact g of b at 0;rent joy*100+knows;");
+        due("a SHOWS b, KNOWS none", x.room(0, 4), 900);
+        due("b SHOWS a, KNOWS two", x.room(1, 4), 2);
+        x.hour();
+        due("a KNOWS two then", x.room(0, 4), 902);
+        x.curtain(1);
+        due("behind a curtain joy is the same", x.room(0, 4), 902);
     }
 
     // "seen (1 if it has no curtain drawn itself, else 0) .. self (1 if its window SHOWS itself, else 0)"

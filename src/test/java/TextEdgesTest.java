@@ -9,7 +9,8 @@ public final class TextEdgesTest {
     private static final int MAX = Integer.MAX_VALUE;
     private static final int BLANKS = 0x20202020;
 
-    private static final String TWO = "room a joy 1;room b joy 2;";
+    private static final String ONE_ROOM = "room a joy 1;";
+    private static final String TWO = ONE_ROOM + "room b joy 2;";
     private static final String SIX = TWO + "room c joy 3;room d joy 4;room e joy 5;room f joy 6;";
     private static final String[] WORDS = {"room", "joy", "curtain", "lot", "fact", "of", "at", "lamp", "tells", "wants",
         "rent", "dark", "to", "draw", "or", "and", "not", "seen", "knows", "want", "day", "self"};
@@ -40,6 +41,7 @@ public final class TextEdgesTest {
         aTextOfSixteenHundredBytes();
         quarterEmptiesTheTape();
         quarterMakesAllAsTold();
+        whatWasToldBeforeIsGone();
         theTimeStays();
         aFaultLeavesAll();
         faultOfTheLatest();
@@ -59,6 +61,7 @@ public final class TextEdgesTest {
 
     private static void lines() {
         noLines();
+        whatCannotStandThere();
         sixRooms();
         joyFromNoughtToNine();
         tenFacts();
@@ -82,6 +85,7 @@ public final class TextEdgesTest {
     private static void formulas() {
         thirtyUnits();
         withinSixOthers();
+        asDeepAsCanBe();
         aFormulaThatStops();
     }
 
@@ -286,11 +290,51 @@ public final class TextEdgesTest {
         }
         due("dark(1)", x.dark(1), 1);
         due("dark(5)", x.dark(5), 0);
-        // What is not told any more is as if it never was.
-        Checks.feed(x, TWO);
-        x.quarter();
-        Checks.same("nothing of it stays", Checks.look(x), Checks.look(of(TWO)));
-        due("dark(1) then", x.dark(1), 0);
+    }
+
+    // "all as told": what is not told any more is as if it never was, however often a QUARTER is told.
+    private static void whatWasToldBeforeIsGone() {
+        String full = full();
+        String dark = TWO + "fact f of b at 7;fact g of a at 8;fact h of a at 0;dark 7 to 8;";
+        String[] texts = {full, TWO, full, full, "", dark, TWO + "fact f of b at 0;", full, dark, ""};
+        OtherPanes x = new OtherPanes();
+        for (String text : texts) {
+            for (int i = 0; i < 75; i++) {
+                x.hour();
+            }
+            x.curtain(1);
+            x.glimpse(0, 0, false);
+            x.glimpse(0, 1, true);
+            x.end(0);
+            Checks.feed(x, "room z joy 9 curtain;fact y of z at 0 lamp;wants z z 9;rent 1;dark 2 to 1;draw 9;lot z;rent");
+            due("a FAULT between", x.quarter(), NONE);
+            x.end(0);
+            Checks.feed(x, text);
+            OtherPanes fresh = of(text);
+            due("quarter() of " + text, x.quarter(), fresh.about(0));
+            Checks.same("as told by " + text, Checks.look(x), Checks.look(fresh));
+            for (int i = 0; i < 2; i++) {
+                due("a GLIMPSE", x.glimpse(i, i, true), fresh.about(0) == 0 ? NONE : i);
+            }
+            due("LOTS", x.lots(0), fresh.about(0) == 6 ? 24 : 1);
+        }
+    }
+
+    private static String full() {
+        StringBuilder s = new StringBuilder();
+        for (char a = 'a'; a <= 'f'; a++) {
+            s.append("room ").append(a).append(" joy 9").append(a < 'c' ? " curtain;" : ";");
+        }
+        s.append("lot f e d c b a;dark 5 to 4;draw 999;rent joy+want*2;");
+        for (int i = 0; i < 10; i++) {
+            s.append("fact ").append((char) ('a' + i)).append(" of ").append((char) ('a' + i % 6)).append(" at ").append(i)
+                .append(" lamp;");
+        }
+        for (char a = 'a'; a <= 'f'; a++) {
+            s.append("wants ").append(a).append(" a 99;wants ").append(a).append(" b 1;");
+            s.append(a == 'a' ? "" : "tells a " + a + ";tells " + a + " a;");
+        }
+        return s.toString();
     }
 
     // "the TIME stays"
@@ -509,6 +553,54 @@ public final class TextEdgesTest {
                 fault(2, TWO + "!" + word + " a;");
             }
         }
+    }
+
+    // "2 one that can't stand there": each line, broken off before each TOKEN by each sort of TOKEN
+    private static void whatCannotStandThere() {
+        String[] lines = {
+            "room NAME joy N curtain ;", "lot a b ;", "fact NAME of a at N lamp ;", "tells a b ;", "wants a b N ;",
+            "rent N ;", "dark N to N ;", "draw N ;"};
+        String[] wrongs = {";", "(", ")", "<", ">", "=", "+", "-", "*", "/", "%", "x", "1", "room", "joy", "curtain", "lot",
+            "fact", "of", "at", "lamp", "tells", "wants", "rent", "dark", "to", "draw", "or", "and", "not", "seen", "knows",
+            "want", "day", "self", "abcdefghi", "12345", "1a", "#", ""};
+        for (String line : lines) {
+            String[] parts = line.split(" ");
+            StringBuilder before = new StringBuilder(TWO);
+            for (int i = 0; i < parts.length; i++) {
+                for (String wrong : wrongs) {
+                    boolean isBad = " abcdefghi 12345 1a # ".contains(" " + wrong + " ");
+                    if (!mayStand(parts, i, wrong)) {
+                        fault(isBad ? 1 : 2, before + "!" + wrong);
+                    }
+                }
+                before.append(parts[i].replace("NAME", "z").replace("N", "7")).append(' ');
+            }
+        }
+    }
+
+    private static boolean mayStand(String[] parts, int i, String token) {
+        String due = parts[i];
+        boolean isOne = token.length() == 1;
+        boolean isName = isOne && Character.isLetter(token.charAt(0));
+        boolean isNumber = isOne && Character.isDigit(token.charAt(0));
+        if (i == 0) {
+            return token.isEmpty() || " room lot fact tells wants rent dark draw ".contains(" " + token + " ");
+        }
+        if (due.equals("NAME") || due.equals("a") || due.equals("b")) {
+            return isName;
+        }
+        if (parts[0].equals("rent")) {
+            boolean isUnit = isNumber || " ( joy seen knows want day self not ".contains(" " + token + " ");
+            boolean joins = " < > = + - * / % or and ; ".contains(" " + token + " ");
+            return !token.isEmpty() && (due.equals("N") ? isUnit : joins);
+        }
+        if (due.equals("N")) {
+            return isNumber;
+        }
+        // Behind the last NAME of a lot another one is looked up; curtain and lamp may stand or not.
+        boolean lookedUp = parts[0].equals("lot") && due.equals(";") && isName;
+        boolean leftOut = (due.equals("curtain") || due.equals("lamp")) && token.equals(";");
+        return token.equals(due) || lookedUp || leftOut;
     }
 
     // "At most 6 ROOMS"; "one of a sort too many .. at the line's first word"
@@ -775,6 +867,22 @@ public final class TextEdgesTest {
         due("beside", of("room a joy 1;rent " + seven + "+" + seven + "*" + seven + ";").room(0, 4), 2);
         due("a not beside", rooms("rent " + "not ".repeat(7) + "1 and " + "not ".repeat(7) + "1 or " + seven + ";"), 0);
         due("a relation behind seven nots", rooms("rent " + "not ".repeat(7) + "1 < 2;"), 0);
+    }
+
+    // 30 units and 7 around at once: what waits for what comes behind it is as much as can be.
+    private static void asDeepAsCanBe() {
+        String level = "1 or 1 and 1 < 1 + 1 * (";
+        String last = "1 or 1 and 1 < 1 + 1 * 2";
+        due("four ( ) and six signs each", of(ONE_ROOM + "rent " + level.repeat(4) + last + "))));").about(12), 30);
+        due("its RENT", of(ONE_ROOM + "rent " + level.repeat(4) + last + "))));").room(0, 4), 1);
+        String sum = "1+2*(";
+        // 1+2*(1+2*( .. (1) .. )) seven times: 2^8 - 1.
+        due("seven ( ) of sums", of(ONE_ROOM + "rent " + sum.repeat(7) + "1" + ")".repeat(7) + ";").room(0, 4), 255);
+        due("from the right", of(ONE_ROOM + "rent 9-(8-(7-(6-(5-(4-(3-(2-1)))))));").room(0, 4), 9 - (8 - (7 - (6 - (5 - (4 - (3 - 1)))))));
+        String nots = "not not not not not not not ";
+        due("seven nots before each of 30", of(ONE_ROOM + "rent " + nots + "0" + (" and " + nots + "0").repeat(29) + ";").room(0, 4), 1);
+        due("one of them is not 0", of(ONE_ROOM + "rent " + nots + "0" + (" and " + nots + "0").repeat(28) + " and " + nots + "5;")
+            .room(0, 4), 0);
     }
 
     // "e = both {or both}. .." as far as it goes
