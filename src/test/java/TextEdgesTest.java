@@ -42,6 +42,7 @@ public final class TextEdgesTest {
         quarterEmptiesTheTape();
         quarterMakesAllAsTold();
         whatWasToldBeforeIsGone();
+        glimpsesAreToldAnew();
         theTimeStays();
         aFaultLeavesAll();
         faultOfTheLatest();
@@ -99,6 +100,10 @@ public final class TextEdgesTest {
     }
 
     private static void due(String what, long got, long want) {
+        Checks.due(what, got, want);
+    }
+
+    private static void due(String what, boolean got, boolean want) {
         Checks.due(what, got, want);
     }
 
@@ -280,10 +285,10 @@ public final class TextEdgesTest {
         Checks.feed(x, text);
         due("quarter()", x.quarter(), 2);
         Checks.same("all as told", Checks.look(x), fresh);
-        due("undo", x.undo() ? 1 : 0, 0);
-        due("redo", x.redo() ? 1 : 0, 0);
-        due("drop", x.drop(0) ? 1 : 0, 0);
-        due("untell", x.untell(0) ? 1 : 0, 0);
+        due("undo", x.undo(), false);
+        due("redo", x.redo(), false);
+        due("drop", x.drop(0), false);
+        due("untell", x.untell(0), false);
         due("lies", x.lies(0), NONE);
         for (int box = 0; box < 3; box++) {
             due("back(" + box + ")", x.back(box), NONE);
@@ -304,7 +309,6 @@ public final class TextEdgesTest {
             }
             x.curtain(1);
             x.glimpse(0, 0, false);
-            x.glimpse(0, 1, true);
             x.end(0);
             Checks.feed(x, "room z joy 9 curtain;fact y of z at 0 lamp;wants z z 9;rent 1;dark 2 to 1;draw 9;lot z;rent");
             due("a FAULT between", x.quarter(), NONE);
@@ -313,11 +317,21 @@ public final class TextEdgesTest {
             OtherPanes fresh = of(text);
             due("quarter() of " + text, x.quarter(), fresh.about(0));
             Checks.same("as told by " + text, Checks.look(x), Checks.look(fresh));
-            for (int i = 0; i < 2; i++) {
-                due("a GLIMPSE", x.glimpse(i, i, true), fresh.about(0) == 0 ? NONE : i);
-            }
-            due("LOTS", x.lots(0), fresh.about(0) == 6 ? 24 : 1);
         }
+    }
+
+    // "no GLIMPSES": those told then are numbered anew, and nothing is left of the old ones.
+    private static void glimpsesAreToldAnew() {
+        OtherPanes x = of(TWO);
+        due("not itself", x.glimpse(0, 0, false), 0);
+        x.untell(x.glimpse(1, 1, false));
+        due("b", x.sure(0, 0), 1);
+        Checks.feed(x, TWO);
+        x.quarter();
+        due("itself", x.glimpse(0, 0, true), 0);
+        due("a", x.sure(0, 0), 0);
+        due("a second one", x.glimpse(1, 1, true), 1);
+        due("is not UNTOLD", x.untell(1), true);
     }
 
     private static String full() {
@@ -371,7 +385,7 @@ public final class TextEdgesTest {
             due("the TAPE of " + wrong, x.about(11), wrong.length());
         }
         due("dark(0)", x.dark(0), 1);
-        due("redo", x.redo() ? 1 : 0, 1);
+        due("redo", x.redo(), true);
         due("the BOX", x.back(1), 0);
         due("another BOX", x.back(0), NONE);
         // The bytes are still there, and can be gone on from.
