@@ -718,6 +718,10 @@ public final class PlanEdgesTest {
             due("back(" + box + ")", x.back(box), 0);
         }
         due("image() is no ACT", x.about(7), 0);
+        for (int box : new int[] {MIN, -32, -1, 3, 4, 31, 32, 33, MAX}) {
+            Checks.doesNothing("image(" + box + "), all full", x, y -> y.image(box), NONE);
+            Checks.doesNothing("back(" + box + "), all full", x, y -> y.back(box), NONE);
+        }
     }
 
     // "are kept in a BOX": the latest
