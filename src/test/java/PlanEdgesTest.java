@@ -267,6 +267,7 @@ public final class PlanEdgesTest {
         Checks.laid("the most", most, 5, 4, 3, 2, 1, 0);
     }
 
+    // "What each ROOM would SHOW lies there then.": of none, and of one
     private static void lotsOfNoRooms() {
         OtherPanes x = of("");
         due("swaps of none", x.swaps(), 0);

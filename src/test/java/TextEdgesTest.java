@@ -25,6 +25,7 @@ public final class TextEdgesTest {
         Checks.finish("TextEdgesTest");
     }
 
+    // "NONE = -1: There is none."; "GAP = -1000000: No number is there."
     private static void constants() {
         due("NONE", NONE, -1);
         due("GAP", GAP, -1000000);
@@ -473,6 +474,7 @@ public final class TextEdgesTest {
         fault(2, "room a joy 1 !0;");
     }
 
+    // "blanks (32, 10)": no others
     private static void otherBlanksAreNoTokens() {
         for (int sign : new int[] {0, 1, 9, 11, 12, 13, 31, 160}) {
             fault(1, "room a!" + (char) sign + "joy 1;");
@@ -1006,6 +1008,7 @@ public final class TextEdgesTest {
         fault(5, TWO + "fact f of a at 1;lot a !f;");
     }
 
+    // "line = room .. | lot .. | fact .. | tells .. | wants .. | rent .. | dark .. | draw ..": in any order that may be
     private static void allThatCanBeToldIsRead() {
         OtherPanes x = of("draw 12;rent joy*100+want;dark 23 to 0;room a joy 9 curtain;fact f of a at 23 lamp;wants a a 99;"
             + "room b joy 0;tells b a;lot b a;fact g of b at 0;wants a b 1;");
