@@ -164,7 +164,7 @@ public final class LanguageTest {
         }
     }
 
-    // "All calls of one run live in ONE room": what an object holds is made with it, and calls make no more.
+    // "All calls of one run live in ONE room": what an object holds is made with it, and calls leave it no more.
     private static void room() throws ReflectiveOperationException {
         OtherPanes x = new OtherPanes();
         long atFirst = held(x);
